@@ -1314,6 +1314,7 @@ public final class PrimeBlocks {
         private final int[] factorBegins = new int[LEVELS];
         private final int[] listed = new int[MOST_THINGS];
         private int listLength;
+        private int listBegin;
         private final Tape tape;
         private final long[][] slots;
         private Things things;
@@ -1423,12 +1424,12 @@ public final class PrimeBlocks {
             }
             switch (sign) {
                 case '[':
-                    return readCharacter(level, sign);
+                    return readList() && takeCharacter(level, sign);
                 case 'D':
                 case 'P':
                 case 'M':
                     at++;
-                    return readCharacter(level, sign);
+                    return readList() && takeCharacter(level, sign);
                 case 'S':
                     at++;
                     copy(things.signs, factors[level]);
@@ -1482,18 +1483,40 @@ public final class PrimeBlocks {
             return true;
         }
 
-        private boolean readCharacter(int level, int letter) {
+        /** Reads "[", numbers and "]"; all numbers are counted, but no more are kept than a partition can have parts. */
+        private boolean readList() {
             if (next() != '[') {
                 return refuse(at);
             }
-            int place = at;
-            at++;
-            if (!readList()) {
-                return false;
+            listBegin = at;
+            listLength = 0;
+            // Each turn takes a sign of the tape at least.
+            for (int turn = 0; turn < Tape.MOST; turn++) {
+                at++;
+                int number = readNumber();
+                if (number == NO_NUMBER) {
+                    return false;
+                }
+                if (listLength < listed.length) {
+                    listed[listLength] = number;
+                }
+                listLength++;
+                int sign = next();
+                if (sign == ']') {
+                    at++;
+                    return true;
+                }
+                if (sign != ',') {
+                    return refuse(at);
+                }
             }
+            return refuse(at);
+        }
+
+        private boolean takeCharacter(int level, int letter) {
             int k = listLength <= listed.length ? things.numberOf(listed, listLength) : NONE;
             if (k == NONE) {
-                return fail(NO_PARTITION, place, level, IN_FACTOR);
+                return fail(NO_PARTITION, listBegin, level, IN_FACTOR);
             }
             if ((letter == 'D' || letter == 'P') && !split.isRegular(k)) {
                 return fail(NOT_REGULAR, factorBegins[level], level, IN_FACTOR);
@@ -1515,41 +1538,17 @@ public final class PrimeBlocks {
             }
         }
 
-        /** Reads numbers to the "]" behind them; all are counted, but no more are kept than a partition can have. */
-        private boolean readList() {
-            listLength = 0;
-            for (int turn = 0; turn < Tape.MOST; turn++) {
-                int number = readNumber();
-                if (number == NO_NUMBER) {
-                    return false;
-                }
-                if (listLength < listed.length) {
-                    listed[listLength] = number;
-                }
-                listLength++;
-                int sign = next();
-                if (sign != ',' && sign != ']') {
-                    return refuse(at);
-                }
-                at++;
-                if (sign == ']') {
-                    return true;
-                }
-            }
-            return refuse(at);
-        }
-
         private int readNumber() {
             int digit = next();
             int begin = at;
             int number = 0;
             while (at < tape.length && isDigit(digit)) {
-                number = at - begin < MOST_DIGITS ? number * 10 + digit - '0' : NO_NUMBER;
+                number = number * 10 + digit - '0';
                 at++;
                 digit = at < tape.length ? tape.bytes[at] : END;
             }
             if (at == begin || at - begin > MOST_DIGITS) {
-                refuse(begin);
+                fault.tell(BAD_SIGN, begin);
                 return NO_NUMBER;
             }
             return number;
