@@ -68,11 +68,23 @@ public final class PromiseTest {
             Check.due("p stays", x.look(1), 3);
             Check.due("slots stay", x.look(7), 4);
         }
+        for (int slot = 0; slot < 6; slot++) {
+            dueAllZeroAnew(slot);
+        }
         Check.due("the same group", x.group(4, 3), 5);
         Check.due("all slots are 0 anew", x.look(7), 0);
         Check.due("value", x.value(2, 0), 0);
         Check.due("the tape stays", x.look(6), 2);
         Check.due("the fault stays", x.fault(0), 2);
+    }
+
+    private static void dueAllZeroAnew(int slot) {
+        PrimeBlocks x = in(6, 5);
+        Check.due("text", Check.read(x, "1", slot), 0);
+        Check.due("look(7)", x.look(7), 1 << slot);
+        Check.due("group", x.group(6, 2), 11);
+        Check.due("slot " + slot + " is 0 anew", x.look(7), 0);
+        Check.due("value", x.value(slot, 10), 0);
     }
 
     private static void feedAndEnd() {
