@@ -416,6 +416,14 @@ public final class PrimeBlocks {
         return i < parts.length ? parts[i] : 0;
     }
 
+    private static int factorialOf(int n) {
+        int product = 1;
+        for (int i = 2; i <= n; i++) {
+            product *= i;
+        }
+        return product;
+    }
+
     private static long greatestDivisor(long a, long b) {
         long greater = a;
         long lesser = b;
@@ -496,25 +504,19 @@ public final class PrimeBlocks {
         }
 
         private int countTableaux() {
-            int above = 1;
             int below = 1;
-            for (int i = 2; i <= n; i++) {
-                above *= i;
-            }
             for (int row = 0; row < rows; row++) {
                 for (int column = 0; column < parts[row]; column++) {
                     below *= hookAt(row, column);
                 }
             }
-            return below > 0 ? above / below : 0;
+            return below > 0 ? factorialOf(n) / below : 0;
         }
 
         private int countWays() {
             int product = 1;
             for (int column = 0; column < columns.length; column++) {
-                for (int i = 2; i <= columns[column]; i++) {
-                    product *= i;
-                }
+                product *= factorialOf(columns[column]);
             }
             return product;
         }
@@ -647,7 +649,6 @@ public final class PrimeBlocks {
         /** For each partition and class how many tabloids stay as they are. */
         final int[][] marks;
         final int[][] characters;
-        final int mostCodes;
         /** Room for forms: a number for each code of a tabloid, all 0 between uses. */
         final int[] byCode;
 
@@ -673,8 +674,7 @@ public final class PrimeBlocks {
             makePowers();
             makeMarks();
             makeCharacters();
-            mostCodes = countCodes();
-            byCode = new int[mostCodes];
+            byCode = new int[countCodes()];
             for (int k = 0; k < count; k++) {
                 shapes[k].makeForms(members[count - 1], byCode);
             }
@@ -693,14 +693,6 @@ public final class PrimeBlocks {
                 }
             }
             return NONE;
-        }
-
-        private static int factorialOf(int n) {
-            int product = 1;
-            for (int i = 2; i <= n; i++) {
-                product *= i;
-            }
-            return product;
         }
 
         private void makeShapes() {
