@@ -8,24 +8,19 @@ public final class GroupsTest {
     private static final int[] PRIMES = {2, 3, 5, 7};
 
     public static void main(String[] args) {
-        PrimeBlocks kept = new PrimeBlocks();
         for (int n = 1; n <= 6; n++) {
             for (int p : PRIMES) {
                 Oracle oracle = new Oracle(n, p);
-                PrimeBlocks fresh = new PrimeBlocks();
-                Check.due("group", fresh.group(n, p), oracle.count);
-                compare(fresh, oracle);
-                Check.due("group", kept.group(n, p), oracle.count);
-                compare(kept, oracle);
+                Check.due("group", new PrimeBlocks().group(n, p), oracle.count);
+                compare(new Tables(n, p), oracle);
+                // What was made for a group must still hold when it comes again.
+                compare(new Tables(n, p, true), oracle);
             }
         }
-        // What was made for a group must still hold when it comes again.
-        Check.due("group again", kept.group(6, 3), 11);
-        compare(kept, new Oracle(6, 3));
         Check.finish();
     }
 
-    private static void compare(PrimeBlocks x, Oracle o) {
+    private static void compare(Tables x, Oracle o) {
         comparePartitions(x, o);
         compareClasses(x, o);
         compareTableaux(x, o);
@@ -39,7 +34,7 @@ public final class GroupsTest {
         return "group(" + o.n + ", " + o.p + ") " + what + Arrays.toString(arguments);
     }
 
-    private static void comparePartitions(PrimeBlocks x, Oracle o) {
+    private static void comparePartitions(Tables x, Oracle o) {
         int regular = 0;
         for (int k = 0; k < o.count; k++) {
             int[] parts = o.partitions.get(k);
@@ -69,7 +64,7 @@ public final class GroupsTest {
         }
     }
 
-    private static void compareHooks(PrimeBlocks x, Oracle o, int k, int[] turned) {
+    private static void compareHooks(Tables x, Oracle o, int k, int[] turned) {
         int[] parts = o.partitions.get(k);
         for (int row = -1; row < 8; row++) {
             for (int column = -1; column < 8; column++) {
@@ -88,7 +83,7 @@ public final class GroupsTest {
         }
     }
 
-    private static void compareClasses(PrimeBlocks x, Oracle o) {
+    private static void compareClasses(Tables x, Oracle o) {
         for (int c = 0; c < o.count; c++) {
             Check.due(at(o, "classOf", c, 0), x.classOf(c, 0), o.sizes[c]);
             Check.due(at(o, "classOf", c, 1), x.classOf(c, 1), o.orderOf(c));
@@ -98,7 +93,7 @@ public final class GroupsTest {
         }
     }
 
-    private static void compareTableaux(PrimeBlocks x, Oracle o) {
+    private static void compareTableaux(Tables x, Oracle o) {
         for (int k = 0; k < o.count; k++) {
             int[] parts = o.partitions.get(k);
             Check.due(at(o, "tableau", k, 77, NONE, -5), x.tableau(k, 77, NONE, -5), o.tableaux[k].length);
@@ -118,7 +113,7 @@ public final class GroupsTest {
         }
     }
 
-    private static void compareCharacters(PrimeBlocks x, Oracle o) {
+    private static void compareCharacters(Tables x, Oracle o) {
         for (int k = 0; k < o.count; k++) {
             for (int c = 0; c < o.count; c++) {
                 Check.due(at(o, "character", k, c), x.character(k, c), o.characters[k][c]);
@@ -129,7 +124,7 @@ public final class GroupsTest {
     }
 
     /** The modular characters are independent, so that what fits is the one way that there is. */
-    private static void compareDecompositions(PrimeBlocks x, Oracle o) {
+    private static void compareDecompositions(Tables x, Oracle o) {
         Check.due(at(o, "independent"), Oracle.rank(o.modulars, 10007), x.look(3));
         for (int k = 0; k < o.count; k++) {
             for (int c = 0; c < o.count; c++) {
@@ -158,7 +153,7 @@ public final class GroupsTest {
         }
     }
 
-    private static void compareBlocks(PrimeBlocks x, Oracle o) {
+    private static void compareBlocks(Tables x, Oracle o) {
         Check.due(at(o, "block", 99, NONE), x.block(99, NONE), o.least.size());
         for (int b = 0; b < o.least.size(); b++) {
             int members = 0;
@@ -186,7 +181,7 @@ public final class GroupsTest {
         }
     }
 
-    private static void compareLooks(PrimeBlocks x, Oracle o) {
+    private static void compareLooks(Tables x, Oracle o) {
         int regular = 0;
         int withoutDefect = 0;
         for (int k = 0; k < o.count; k++) {

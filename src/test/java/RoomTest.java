@@ -47,7 +47,7 @@ public final class RoomTest {
     private static void readTexts() {
         PrimeBlocks x = new PrimeBlocks();
         x.group(6, 2);
-        for (int i = 0; i < CALLS; i += 2) {
+        for (int i = 2; i < CALLS; i += 2) {
             x.feed(0x582B582B, 0x582B582B, 0x53285328, 0x53285329, 0x29202020);
             x.text(i % 6);
         }

@@ -11,8 +11,7 @@ public final class TextTest {
 
     private final Random random;
     private final PrimeBlocks x = new PrimeBlocks();
-    /** Tells tables alone, so that the other one stays within its calls. */
-    private final PrimeBlocks tables = new PrimeBlocks();
+    private final Tables tables;
     private final BigInteger[][] slots = new BigInteger[6][];
     private final int n;
     private final int p;
@@ -26,7 +25,8 @@ public final class TextTest {
         random = new Random(seed);
         n = 1 + random.nextInt(6);
         p = PRIMES[random.nextInt(4)];
-        classes = tables.group(n, p);
+        tables = new Tables(n, p);
+        classes = tables.look(2);
         Check.due("group", x.group(n, p), classes);
         for (int slot = 0; slot < 6; slot++) {
             slots[slot] = new BigInteger[classes];

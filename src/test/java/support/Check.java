@@ -21,6 +21,14 @@ final class Check {
         due(call, got ? 1 : 0, want ? 1 : 0);
     }
 
+    static int asked() {
+        return asked;
+    }
+
+    static int wrong() {
+        return wrong;
+    }
+
     static void finish() {
         System.out.println(asked + " answers, " + wrong + " not as due");
         if (wrong != 0 || asked == 0) {

@@ -27,13 +27,13 @@ final class TextModel {
     }
 
     private final String text;
-    private final PrimeBlocks tables;
+    private final Tables tables;
     private final int classes;
     private final BigInteger[][] slots;
     private final List<Open> pile = new ArrayList<>();
     private int at;
 
-    TextModel(String text, PrimeBlocks tables, BigInteger[][] slots) {
+    TextModel(String text, Tables tables, BigInteger[][] slots) {
         this.text = text;
         this.tables = tables;
         this.classes = tables.look(2);
