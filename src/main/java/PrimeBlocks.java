@@ -944,7 +944,9 @@ public final class PrimeBlocks {
 
         /** A part is a bead, and a hook of p cells that goes is a bead that slides down p free places. */
         private static int slide(int[] parts, int prime, boolean[] beads) {
-            Arrays.fill(beads, false);
+            for (int place = 0; place < beads.length; place++) {
+                beads[place] = false;
+            }
             for (int i = 0; i < parts.length; i++) {
                 beads[parts[i] + parts.length - 1 - i] = true;
             }

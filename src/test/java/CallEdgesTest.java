@@ -7,8 +7,7 @@ public final class CallEdgesTest {
     private static final int[] NO_SLOTS = {-1, -2, 6, 7, 100, LOW, HIGH};
 
     public static void main(String[] args) {
-        edges().run(null);
-        Check.finish();
+        edges().run();
     }
 
     static Edges edges() {
@@ -353,6 +352,14 @@ public final class CallEdgesTest {
         Edges.dueRow("value", c -> x.value(4, c), 0, 0, 3);
         Edges.dueRow("parts(4, k, 0)", k -> x.parts(4, k, 0), 1, 1, 1);
         Edges.dueRow("parts(4, k, 2)", k -> x.parts(4, k, 2), 2, 1, 2);
+        // 1 at one permutation of two: above and below have nothing in common.
+        PrimeBlocks two = Edges.in(2, 2);
+        Check.due("text", Check.read(two, "D[2]", 0), 0);
+        Edges.dueRow("parts(0, k, 0) of 2", k -> two.parts(0, k, 0), 1, 1);
+        Edges.dueRow("parts(0, k, 2) of 2", k -> two.parts(0, k, 2), 2, 2);
+        PrimeBlocks one = Edges.in(1, 2);
+        Check.due("text", Check.read(one, "7", 0), 0);
+        Edges.dueRow("parts(0, 0, what) of 1", what -> one.parts(0, 0, what), 7, 7, 1, 1);
         PrimeBlocks six = Edges.in(6, 2);
         Check.due("text", Check.read(six, "D[6]-1+D[6]", 0), 0);
         Edges.dueRow("value", c -> six.value(0, c), -1, 1, -1, -1, 1, -1, 1, -1, -1, -1, 1);

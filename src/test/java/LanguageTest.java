@@ -1,3 +1,4 @@
+import java.io.DataInputStream;
 import java.io.IOException;
 import java.lang.reflect.Constructor;
 import java.lang.reflect.Field;
@@ -28,6 +29,10 @@ public final class LanguageTest {
         String source = Files.readString(Path.of("src/main/java/PrimeBlocks.java"), StandardCharsets.UTF_8);
         words(plain(source));
         methodLengths(source);
+        libraryCalls(PrimeBlocks.class);
+        for (Class<?> nested : PrimeBlocks.class.getDeclaredClasses()) {
+            libraryCalls(nested);
+        }
         Check.finish();
     }
 
@@ -117,6 +122,53 @@ public final class LanguageTest {
             "MIN_VALUE", "MAX_VALUE");
         while (library.find()) {
             Check.due(library.group(), allowed.contains(library.group(2)), true);
+        }
+    }
+
+    /** What the compiled class names of other classes: the library's part that is left, and arrays of numbers alone. */
+    private static void libraryCalls(Class<?> type) throws IOException {
+        for (String call : referencesOf(type)) {
+            boolean own = call.startsWith("PrimeBlocks");
+            boolean allowed = call.matches("java/lang/Object\\.<init>\\(\\)V")
+                || call.matches("java/lang/(Math|Integer|Long)\\.(max|min|abs|floorMod|floorDiv|bitCount|compare)\\([IJ]+\\)[IJ]")
+                || call.matches("java/lang/System\\.arraycopy\\(.*")
+                || call.matches("java/util/Arrays\\.(fill|copyOf|copyOfRange)\\(\\[[IJSBC].*")
+                || call.matches("\\[+[A-Z]\\.clone\\(\\)Ljava/lang/Object;");
+            Check.due(type.getName() + " names " + call, own || allowed, true);
+        }
+    }
+
+    /** Fields and methods that a compiled class names, from its table of constants. */
+    private static Set<String> referencesOf(Class<?> type) throws IOException {
+        try (DataInputStream in = new DataInputStream(type.getResourceAsStream(type.getName() + ".class"))) {
+            in.readLong();
+            int count = in.readUnsignedShort();
+            String[] texts = new String[count];
+            int[][] pairs = new int[count][];
+            int[] kinds = new int[count];
+            for (int i = 1; i < count; i++) {
+                kinds[i] = in.readUnsignedByte();
+                switch (kinds[i]) {
+                    case 1 -> texts[i] = in.readUTF();
+                    case 5, 6 -> {
+                        in.readLong();
+                        i++;
+                    }
+                    case 3, 4 -> in.readInt();
+                    case 7, 8, 16, 19, 20 -> pairs[i] = new int[] {in.readUnsignedShort()};
+                    case 15 -> pairs[i] = new int[] {in.readUnsignedByte(), in.readUnsignedShort()};
+                    default -> pairs[i] = new int[] {in.readUnsignedShort(), in.readUnsignedShort()};
+                }
+            }
+            Set<String> all = new TreeSet<>();
+            for (int i = 1; i < count; i++) {
+                if (kinds[i] >= 9 && kinds[i] <= 11) {
+                    int[] name = pairs[pairs[i][1]];
+                    all.add(texts[pairs[pairs[i][0]][0]] + "." + texts[name[0]] + texts[name[1]]);
+                }
+                Check.due("no call that is made at run time", kinds[i] >= 15 && kinds[i] <= 18, false);
+            }
+            return all;
         }
     }
 

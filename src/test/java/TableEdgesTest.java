@@ -6,8 +6,7 @@ public final class TableEdgesTest {
     private static final int HIGH = Edges.HIGH;
 
     public static void main(String[] args) {
-        edges().run(null);
-        Check.finish();
+        edges().run();
     }
 
     static Edges edges() {

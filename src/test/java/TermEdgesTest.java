@@ -3,8 +3,7 @@ public final class TermEdgesTest {
     private static final int NONE = PrimeBlocks.NONE;
 
     public static void main(String[] args) {
-        edges().run(null);
-        Check.finish();
+        edges().run();
     }
 
     static Edges edges() {

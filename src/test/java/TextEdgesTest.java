@@ -5,8 +5,7 @@ public final class TextEdgesTest {
     private static final long LIMIT = 1000000000000L;
 
     public static void main(String[] args) {
-        edges().run(null);
-        Check.finish();
+        edges().run();
     }
 
     static Edges edges() {

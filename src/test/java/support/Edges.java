@@ -24,31 +24,32 @@ final class Edges {
 
     private final List<Edge> edges = new ArrayList<>();
 
-    /** A sentence as the document has it; the name is what .ci/broken calls it by. */
+    /** A sentence as the document has it, and a short name for it. */
     void add(String name, String sentence, Runnable test) {
         edges.add(new Edge(name, sentence, test));
     }
 
-    List<String> names() {
-        List<String> names = new ArrayList<>();
+    /** Runs the tests of all sentences, tells those that are broken, and ends. */
+    void run() {
         for (Edge edge : edges) {
-            names.add(edge.name);
+            int askedBefore = Check.asked();
+            int wrongBefore = Check.wrong();
+            runOne(edge);
+            Check.due("'" + edge.name + "' asks something", Check.asked() > askedBefore, true);
+            if (Check.wrong() > wrongBefore) {
+                System.out.println("BROKEN: " + edge.name + ": \"" + edge.sentence + "\"");
+            }
         }
-        return names;
+        System.out.println(edges.size() + " sentences");
+        Check.finish();
     }
 
-    /** Runs the tests of all sentences, or of the one that has this name; tells the sentences that are broken. */
-    void run(String onlyName) {
-        for (Edge edge : edges) {
-            if (onlyName == null || onlyName.equals(edge.name)) {
-                int askedBefore = Check.asked();
-                int wrongBefore = Check.wrong();
-                edge.test.run();
-                Check.due("'" + edge.name + "' asks something", Check.asked() > askedBefore, true);
-                if (Check.wrong() > wrongBefore) {
-                    System.out.println("BROKEN: " + edge.name + ": \"" + edge.sentence + "\"");
-                }
-            }
+    /** No call may throw; one that does breaks its own sentence, and the others are still looked at. */
+    private static void runOne(Edge edge) {
+        try {
+            edge.test.run();
+        } catch (RuntimeException thrown) {
+            Check.due("'" + edge.name + "' threw " + thrown + " at " + thrown.getStackTrace()[0], true, false);
         }
     }
 
