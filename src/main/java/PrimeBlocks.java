@@ -307,7 +307,7 @@ public final class PrimeBlocks {
                 continue;
             }
             long above = timesFactorial(slots[slot], k, false);
-            if (above % things.factorial != 0) {
+            if (!isWholeTimes(above)) {
                 return NONE;
             }
             addTimes(above / things.factorial, things.characters[k]);
@@ -376,7 +376,7 @@ public final class PrimeBlocks {
                 continue;
             }
             long above = timesFactorial(function, k, modular);
-            if (above % things.factorial != 0 || (notBelowZero && above < 0)) {
+            if (!isWholeTimes(above) || (notBelowZero && above < 0)) {
                 return false;
             }
         }
@@ -392,6 +392,10 @@ public final class PrimeBlocks {
             sum += function[c] * things.sizes[c] * row[c];
         }
         return sum;
+    }
+
+    private boolean isWholeTimes(long timesFactorial) {
+        return things.factorial > 0 && timesFactorial % things.factorial == 0;
     }
 
     private void addTimes(long times, int[] row) {

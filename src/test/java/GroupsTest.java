@@ -28,6 +28,7 @@ public final class GroupsTest {
         compareDecompositions(x, o);
         compareBlocks(x, o);
         compareLooks(x, o);
+        compareTheorems(x, o);
     }
 
     private static String at(Oracle o, String what, int... arguments) {
@@ -194,5 +195,50 @@ public final class GroupsTest {
         for (int what = 0; what < due.length; what++) {
             Check.due(at(o, "look", what), x.look(what), due[what]);
         }
+    }
+
+    /** What is known of every group, whatever way its tables are made. */
+    private static void compareTheorems(Tables x, Oracle o) {
+        int ofBlocks = 1;
+        for (int b = 0; b < o.least.size(); b++) {
+            ofBlocks *= x.block(b, 5);
+        }
+        int ofClasses = 1;
+        int regularClasses = 0;
+        for (int c = 0; c < o.count; c++) {
+            if (o.isRegularClass(c)) {
+                regularClasses++;
+                for (int rest = o.countCommuting(c); rest % o.p == 0; rest /= o.p) {
+                    ofClasses *= o.p;
+                }
+            }
+        }
+        Check.due(at(o, "determinants of all blocks are the powers of p in what goes with regular classes"), ofBlocks, ofClasses);
+        Check.due(at(o, "as many regular partitions as regular classes"), x.look(3), regularClasses);
+        for (int k = 0; k < o.count; k++) {
+            for (int other = 0; other < o.count; other++) {
+                if (!o.isRegular(other)) {
+                    continue;
+                }
+                boolean apart = o.blockOf[k] != o.blockOf[other];
+                Check.due(at(o, "decomposition apart", k, other), apart && x.decomposition(k, other) != 0, false);
+                // A module has its own modular one once, and others of earlier partitions alone.
+                int most = k == other ? 1 : 0;
+                Check.due(at(o, "decomposition by itself, or a later one", k, other), other >= k && x.decomposition(k, other) != most, false);
+                if (o.isRegular(k)) {
+                    Check.due(at(o, "modular with projective", k, other), productOf(x, o, k, other), k == other ? o.permutations.size() : 0);
+                }
+            }
+        }
+    }
+
+    private static long productOf(Tables x, Oracle o, int modular, int projective) {
+        long sum = 0;
+        for (int c = 0; c < o.count; c++) {
+            if (o.isRegularClass(c)) {
+                sum += (long) o.sizes[c] * x.modular(modular, c) * x.projective(projective, c);
+            }
+        }
+        return sum;
     }
 }
